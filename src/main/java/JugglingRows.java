@@ -399,7 +399,7 @@ public final class JugglingRows {
         if (now.count >= MOST_ROWS) {
             return refusals.refuse(NO_ROOM, MOST_ROWS);
         }
-        return now.addRow(throwsTold, many);
+        return now.appendRow(throwsTold, many);
     }
 
     private int dropRow(int row) {
@@ -696,7 +696,7 @@ public final class JugglingRows {
         int length;
         final int[] heights = new int[MOST_THROWS];
 
-        void copyFrom(Row other) {
+        void copyThrows(Row other) {
             length = other.length;
             System.arraycopy(other.heights, 0, heights, 0, MOST_THROWS);
         }
@@ -868,7 +868,7 @@ public final class JugglingRows {
                 Row mine = rows[row];
                 Row theirs = other.rows[row];
                 if (mine != null && theirs != null) {
-                    mine.copyFrom(theirs);
+                    mine.copyThrows(theirs);
                 }
             }
             state = other.state;
@@ -884,7 +884,7 @@ public final class JugglingRows {
             return row >= 0 && row < count && row < rows.length ? rows[row] : null;
         }
 
-        int addRow(int throwsTold, int many) {
+        int appendRow(int throwsTold, int many) {
             count++;
             Row added = rowNumbered(count - 1);
             if (added != null) {

@@ -205,6 +205,12 @@ public final class PromisesTest {
         x.row(10000002, 8);
         due("to the edge", x.swap(5, 0, 7), -3);
         dueRefusal(x, 2, 7, -4);
+        x.drop(4);
+        x.row(3333, 4);
+        due("beats further on", x.swap(5, 1, 3), 5);
+        dueRow(x, 5, "3531");
+        due("beats side by side", x.swap(5, 2, 3), 2);
+        dueRow(x, 5, "3522");
         x.drop(5);
         x.row(70000002, 8);
         due("to 9 and 0", x.swap(5, 0, 7), 9);
@@ -230,8 +236,12 @@ public final class PromisesTest {
         dueRow(x, 2, "1939");
         x.row(8, 1);
         due("to 9", x.lift(3), 9);
+        x.row(90, 2);
+        due("above 9 at once", x.lift(4), -3);
+        dueRefusal(x, 2, 0, -4);
+        dueRow(x, 4, "90");
         due("below", x.lift(-1), -1);
-        due("above", x.lift(4), -1);
+        due("above", x.lift(5), -1);
     }
 
     private static void begin() {
@@ -383,6 +393,12 @@ public final class PromisesTest {
             due("53210: " + what, x.rowOf(5, what), clashing[what]);
         }
         x.drop(5);
+        int[] alike = {312, 120, 12};
+        for (int told : alike) {
+            x.row(told, 3);
+            due("two states alike in " + told, x.rowOf(5, 7), 0);
+            x.drop(5);
+        }
         x.row(333, 3);
         due("the beats up to the period alone", x.rowOf(5, 7), 1);
         due("333's period", x.rowOf(5, 4), 1);
@@ -665,6 +681,15 @@ public final class PromisesTest {
         dueLine("to 00555", x, x.tellJoin(0), "555");
         due("made", x.join(0), 3);
         due("the state then", x.juggler(0), 28);
+        x.row(75319, 5);
+        x.begin(5);
+        dueLine("by a throw of 9", x, x.tellJoin(1), "9");
+        due("as long the other way", x.joinAgain(1), 1);
+        x.row(2, 1);
+        x.begin(2);
+        x.toss(3);
+        dueLine("by a throw of 1", x, x.tellJoin(2), "1");
+        due("as long the other way", x.joinAgain(2), 1);
     }
 
     private static void sign() {
@@ -733,6 +758,9 @@ public final class PromisesTest {
         dueRefusal(x, 1, 6, 5);
         due("a long text", readText(x, "b3;j3;j3;j3;j3;j3;j3;j3;j3;j3;j3;j3;j3;j3;j3;j3;j3;j3;j3;j3;j3;j3;j3"), 23);
         due("throws", x.account(4), 22);
+        due("nines", readText(x, "97531;99;x2;b8;j9;j9"), 6);
+        dueRow(x, 1, "97531");
+        x.undo();
         due("a fault is no change", readText(x, "5;q"), -102);
         due("changes", x.account(10), 2);
     }
@@ -907,9 +935,17 @@ public final class PromisesTest {
         due("begun", x.account(8), 0);
         due("row", x.undo(), 1);
         due("rows", x.account(0), 1);
+        x.turn(0);
         x.drop(0);
-        due("drop", x.undo(), 1);
+        due("drop", x.undo(), 2);
+        dueRow(x, 0, "15");
+        due("turn", x.undo(), 1);
         dueRow(x, 0, "51");
+        x.begin(2);
+        x.toss(3);
+        x.begin(4);
+        due("the second begin", x.undo(), 3);
+        due("its state", x.juggler(0), 5);
     }
 
     private static void errorsAreNoChanges() {
