@@ -15,8 +15,11 @@ public final class ModelTest {
     private static final int BAD = -2;
     private static final int REFUSED = -3;
     private static final int NOTHING = -4;
-    private static final int RUNS = 1500;
-    private static final int CALLS = 300;
+    private static final int RUNS = 12000;
+    private static final int MOST_CALLS = 512;
+    private static final int MOST_OF_A_STEP = 130;
+    private static final int LOOKS = 3;
+    private static final int ALL_LOOKS = 60;
     private static long seed = 20261119;
     private static int wrong = 0;
 
@@ -98,6 +101,7 @@ public final class ModelTest {
     /** One run on a new object and a new model. */
     private static final class Run {
         private final int number;
+        private int calls;
         private final JugglingRows x = new JugglingRows();
         private final Model model = new Model();
 
@@ -106,18 +110,28 @@ public final class ModelTest {
         }
 
         void go() {
-            for (int call = 0; call < CALLS && wrong < 20; call++) {
-                step(call);
-                look(call);
+            for (int step = 0; calls + MOST_OF_A_STEP + ALL_LOOKS <= MOST_CALLS && wrong < 20; step++) {
+                change("run " + number + " step " + step + " ");
+                look("run " + number + " behind step " + step + " ", below(LOOKS * 2));
             }
+            for (int which = 0; which < LOOKS; which++) {
+                look("run " + number + " at its end ", which);
+            }
+            if (calls > MOST_CALLS) {
+                throw new IllegalStateException("the run has more calls than an object is made for");
+            }
+        }
+
+        private void check(String told, int got, int want) {
+            calls++;
+            same(told, got, want);
         }
 
         private int small() {
             return below(12) == 0 ? below(12) - 3 : below(6);
         }
 
-        private void step(int call) {
-            String told = "run " + number + " call " + call + " ";
+        private void change(String told) {
             int a = small();
             int b = below(9) - (below(20) == 0 ? 1 : 0);
             int c = below(9);
@@ -126,43 +140,44 @@ public final class ModelTest {
                     int[] rows = {531, 441, 51, 3, 97531, 7131, 744, 123, 5, 71, 4, 40, 504, 55500, 0, 9, 86420, 7531, 35, 450};
                     int[] many = {3, 3, 2, 1, 5, 4, 3, 3, 1, 2, 1, 2, 3, 5, 1, 1, 5, 4, 2, 3};
                     int pick = below(rows.length);
-                    same(told + "row", x.row(rows[pick], many[pick]), model.row(rows[pick], many[pick]));
+                    check(told + "row", x.row(rows[pick], many[pick]), model.row(rows[pick], many[pick]));
                 }
                 case 3 -> {
                     int many = below(11) - 1;
                     int height = below((int) Math.pow(10, Math.max(0, Math.min(9, many + below(2))))) - (below(9) == 0 ? 1 : 0);
-                    same(told + "row " + height + " " + many, x.row(height, many), model.row(height, many));
+                    check(told + "row " + height + " " + many, x.row(height, many), model.row(height, many));
                 }
-                case 4 -> same(told + "drop " + a, x.drop(a), model.drop(a));
-                case 5 -> same(told + "turn " + a, x.turn(a), model.turn(a));
-                case 6, 7 -> same(told + "swap " + a + " " + b + " " + c, x.swap(a, b, c), model.swap(a, b, c));
-                case 8 -> same(told + "lift " + a, x.lift(a), model.lift(a));
-                case 9 -> same(told + "begin " + b, x.begin(b), model.begin(b));
+                case 4 -> check(told + "drop " + a, x.drop(a), model.drop(a));
+                case 5 -> check(told + "turn " + a, x.turn(a), model.turn(a));
+                case 6, 7 -> check(told + "swap " + a + " " + b + " " + c, x.swap(a, b, c), model.swap(a, b, c));
+                case 8 -> check(told + "lift " + a, x.lift(a), model.lift(a));
+                case 9 -> check(told + "begin " + b, x.begin(b), model.begin(b));
                 case 10, 11 -> {
                     int height = b + below(2);
-                    same(told + "toss " + height, x.toss(height), model.toss(height));
+                    check(told + "toss " + height, x.toss(height), model.toss(height));
                 }
                 case 12 -> {
                     int could = x.could(below(4));
-                    same(told + "toss " + could, x.toss(could), model.toss(could));
+                    calls++;
+                    check(told + "toss " + could, x.toss(could), model.toss(could));
                 }
-                case 13, 14 -> same(told + "join " + a, x.join(a), model.join(a));
-                case 15, 16 -> same(told + "once " + a, x.once(a), model.once(a));
+                case 13, 14 -> check(told + "join " + a, x.join(a), model.join(a));
+                case 15, 16 -> check(told + "once " + a, x.once(a), model.once(a));
                 case 17 -> {
-                    same(told + "join " + a, x.join(a), model.join(a));
-                    same(told + "once " + a, x.once(a), model.once(a));
+                    check(told + "join " + a, x.join(a), model.join(a));
+                    check(told + "once " + a, x.once(a), model.once(a));
                 }
-                case 18 -> same(told + "undo", x.undo(), model.undo());
+                case 18 -> check(told + "undo", x.undo(), model.undo());
                 case 19 -> {
                     if (below(3) == 0) {
-                        same(told + "restore", x.restore(), model.restore());
+                        check(told + "restore", x.restore(), model.restore());
                     } else {
-                        same(told + "save", x.save(), model.save());
+                        check(told + "save", x.save(), model.save());
                     }
                 }
                 case 20, 21 -> readText(told, rightText());
                 case 22 -> readText(told, oddText());
-                default -> same(told + "append", x.append(30 + c * 12), model.append(30 + c * 12));
+                default -> check(told + "append", x.append(30 + c * 12), model.append(30 + c * 12));
             }
         }
 
@@ -201,53 +216,63 @@ public final class ModelTest {
 
         private void readText(String told, String text) {
             for (int index = 0; index < text.length(); index++) {
-                same(told + "append", x.append(text.charAt(index)), model.append(text.charAt(index)));
+                check(told + "append", x.append(text.charAt(index)), model.append(text.charAt(index)));
             }
-            same(told + "read " + text, x.read(), model.read());
+            check(told + "read " + text, x.read(), model.read());
         }
 
-        private void look(int call) {
-            String told = "run " + number + " behind call " + call + " ";
+        private void look(String told, int which) {
+            switch (which) {
+                case 0 -> numbers(told);
+                case 1 -> queries(told);
+                case 2 -> lines(told, small());
+                default -> check(told + "account 4", x.account(4), model.account(4));
+            }
+        }
+
+        private void numbers(String told) {
             for (int what = -1; what <= 11; what++) {
-                same(told + "account " + what, x.account(what), model.account(what));
+                check(told + "account " + what, x.account(what), model.account(what));
             }
             for (int what = -1; what <= 6; what++) {
-                same(told + "juggler " + what, x.juggler(what), model.juggler(what));
+                check(told + "juggler " + what, x.juggler(what), model.juggler(what));
             }
             for (int what = -1; what <= 3; what++) {
-                same(told + "refusal " + what, x.refusal(what), model.refusal(what));
+                check(told + "refusal " + what, x.refusal(what), model.refusal(what));
             }
+        }
+
+        private void queries(String told) {
             int row = small();
             int beat = below(9) - 1;
             int what = below(10) - 1;
-            same(told + "rowOf " + row + " " + what, x.rowOf(row, what), model.rowOf(row, what));
-            same(told + "throwAt", x.throwAt(row, beat), model.throwAt(row, beat));
-            same(told + "isClean", x.isClean(row), model.isClean(row));
-            same(told + "isCleanAgain", x.isCleanAgain(row), model.isClean(row));
-            same(told + "stateOf", x.stateOf(row, beat), model.stateOf(row, beat));
-            same(told + "could", x.could(beat), model.could(beat));
-            same(told + "joinTo " + row, x.joinTo(row), model.joinTo(row));
-            same(told + "joinAgain " + row, x.joinAgain(row), model.joinTo(row));
-            same(told + "joinThrow " + row + " " + beat, x.joinThrow(row, beat), model.joinThrow(row, beat));
+            check(told + "rowOf " + row + " " + what, x.rowOf(row, what), model.rowOf(row, what));
+            check(told + "throwAt", x.throwAt(row, beat), model.throwAt(row, beat));
+            check(told + "isClean", x.isClean(row), model.isClean(row));
+            check(told + "isCleanAgain", x.isCleanAgain(row), model.isClean(row));
+            check(told + "stateOf", x.stateOf(row, beat), model.stateOf(row, beat));
+            check(told + "could", x.could(beat), model.could(beat));
+            check(told + "joinTo " + row, x.joinTo(row), model.joinTo(row));
+            check(told + "joinAgain " + row, x.joinAgain(row), model.joinTo(row));
+            check(told + "joinThrow " + row + " " + beat, x.joinThrow(row, beat), model.joinThrow(row, beat));
             int other = small();
-            same(told + "between " + row + " " + other, x.between(row, other), model.between(row, other));
+            check(told + "between " + row + " " + other, x.between(row, other), model.between(row, other));
             int kind = below(5) - 1;
             int place = below(8) - 1;
-            same(told + "ranked " + kind + " " + place, x.ranked(kind, place), model.ranked(kind, place));
-            same(told + "isWell", x.isWell(), 1);
-            same(told + "mean", x.mean(), model.mean());
-            lines(told, row);
+            check(told + "ranked " + kind + " " + place, x.ranked(kind, place), model.ranked(kind, place));
+            check(told + "isWell", x.isWell(), 1);
+            check(told + "mean", x.mean(), model.mean());
         }
 
         private void lines(String told, int row) {
             switch (below(3)) {
-                case 0 -> same(told + "tellRow " + row, x.tellRow(row), model.tellRow(row));
-                case 1 -> same(told + "tellState", x.tellState(), model.tellState());
-                default -> same(told + "tellJoin " + row, x.tellJoin(row), model.tellJoin(row));
+                case 0 -> check(told + "tellRow " + row, x.tellRow(row), model.tellRow(row));
+                case 1 -> check(told + "tellState", x.tellState(), model.tellState());
+                default -> check(told + "tellJoin " + row, x.tellJoin(row), model.tellJoin(row));
             }
             for (int index = -1; index < 12; index++) {
                 int want = index >= 0 && index < model.line.length() ? model.line.charAt(index) : NONE;
-                same(told + "sign " + index, x.sign(index), want);
+                check(told + "sign " + index, x.sign(index), want);
             }
         }
     }
